@@ -56,6 +56,7 @@ public final class ClaimRowsPromises {
         lettersBeyondTheKept();
         all();
         objectsAreApart();
+        readmeExample();
         System.out.println(wrong == 0 ? "all answers are as due" : wrong + " answers are not as due");
         if (wrong != 0) {
             System.exit(1);
@@ -998,5 +999,32 @@ public final class ClaimRowsPromises {
         due("clock", y.search(1, 0, 0), 1);
         due("paid", y.all(0), 0);
         due("letters", y.all(3), 1);
+    }
+
+    /** The example of README.md, call by call: who changes one changes the other. */
+    private static void readmeExample() {
+        part = "README";
+        ClaimRows rows = new ClaimRows();
+        due("table", rows.table(0, 0, 300, 5), 1);
+        int item = rows.item(0, 1000, 0, 10, 2);
+        due("item", item, 1);
+        due("pass", rows.pass(item, 3, true), 1);
+        int claim = rows.claim(item, 0, 0, 12);
+        due("claim", claim, 1);
+        due("proof", rows.proof(claim, 0), 0);
+        int search = rows.search(claim, 4, 20);
+        due("search", search, 1);
+        due("answer", rows.answer(search, true), 1);
+        due("limit", rows.limit(0, 500), 1);
+        due("decide", rows.decide(claim, 0), 2);
+        due("appeal", rows.appeal(claim), 1);
+        due("search again", rows.search(claim, 5, 25), 2);
+        due("tick", rows.tick(26), 1);
+        due("decide again", rows.decide(claim, 0), 1);
+        due("sum", rows.sum(claim), 300);
+        due("share", rows.share(claim, 3), 300);
+        due("found", rows.found(item), 1);
+        due("back", rows.back(claim, true), 1);
+        due("all", rows.all(1), 300);
     }
 }
